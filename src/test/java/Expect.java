@@ -1,3 +1,5 @@
+import java.util.List;
+
 /** Compares answers with what is due, prints each that differs, and ends a test. */
 final class Expect {
     /** A call that answers a number or throws. */
@@ -21,12 +23,28 @@ final class Expect {
     }
 
     void same(String what, Call got, Call want) {
-        String answered = outcome(got);
-        String awaited = outcome(want);
+        text(what, outcome(got), outcome(want));
+    }
+
+    void text(String what, String got, String want) {
         looked++;
-        if (!answered.equals(awaited)) {
+        if (!got.equals(want)) {
             wrong++;
-            System.out.println(what + " answered " + answered + ", due is " + awaited);
+            System.out.println(what + " answered " + got + ", due is " + want);
+        }
+    }
+
+    void texts(String what, List<String> got, List<String> want) {
+        due(what + ": answers", got.size(), want.size());
+        for (int i = 0; i < Math.min(got.size(), want.size()); i++) {
+            text(what, got.get(i), want.get(i));
+        }
+    }
+
+    void row(String what, long[] got, long[] want) {
+        due(what + ": coefficients", got.length, want.length);
+        for (int i = 0; i < Math.min(got.length, want.length); i++) {
+            due(what + ", coefficient " + i, got[i], want[i]);
         }
     }
 
@@ -41,7 +59,7 @@ final class Expect {
         }
     }
 
-    private static String outcome(Call call) {
+    static String outcome(Call call) {
         try {
             return Long.toString(call.answer());
         } catch (RuntimeException e) {

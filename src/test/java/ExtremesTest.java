@@ -1,84 +1,66 @@
 import java.math.BigInteger;
 
-/** Coefficients at the very ends of the CENTRED range, which drawn numbers hardly ever reach. */
+/** Rows that are all at an end of the CENTRED range: the greatest sums of products that there can be. */
 public final class ExtremesTest {
-    private static final BigInteger Q = BigInteger.valueOf(268_435_399L);
-    private static final BigInteger HALF = Q.shiftRight(1);
+    private static final BigInteger Q = BigInteger.valueOf(Rows.Q);
+    private static final long HALF = Rows.HALF;
 
     private final Expect expect;
     private final int kind;
+    private final Desk x = new Desk();
     private final int n;
-    private final BigInteger t;
-    private final RingCipher x = new RingCipher();
+    private final int t;
+    private final Forge forge;
 
     private ExtremesTest(Expect expect, int kind) {
         this.expect = expect;
         this.kind = kind;
         n = x.begin(kind, 99);
-        t = BigInteger.valueOf(x.count(2));
+        t = x.count(2);
         x.keys();
+        forge = new Forge(x);
     }
 
     public static void main(String[] args) {
         Expect expect = new Expect();
         for (int kind = 0; kind < 3; kind++) {
-            new ExtremesTest(expect, kind).greatestNoise(HALF);
-            new ExtremesTest(expect, kind).greatestNoise(HALF.negate());
-            new ExtremesTest(expect, kind).greatestProduct(HALF);
-            new ExtremesTest(expect, kind).greatestProduct(HALF.negate());
+            for (long noise : new long[] {HALF, -HALF}) {
+                new ExtremesTest(expect, kind).greatestNoise(noise);
+            }
+            for (long first : new long[] {HALF, -HALF}) {
+                for (long second : new long[] {HALF, -HALF}) {
+                    new ExtremesTest(expect, kind).greatestSquare(first, second);
+                }
+            }
         }
         expect.finish();
     }
 
-    /** CIPHER 0 gets this first PART in every coefficient and nothing else, by adding and multiplying D alone. */
-    private void build(BigInteger coefficient) {
-        BigInteger d = Q.divide(t);
-        int rest = coefficient.multiply(d.modInverse(Q)).mod(Q).intValueExact();
-        int base = x.count(2) - 1;
-        x.seal(0, 0);
-        x.join(0, 1, 0, 0);
-        x.set(1, 0, base);
-        int place = 1;
-        while ((long) place * base <= rest) {
-            place *= base;
-        }
-        for (; place > 0; place /= base) {
-            for (int i = 0; i < n; i++) {
-                x.set(0, i, rest / place % base);
-            }
-            x.plain(0, 1, 0, 1);
-            x.plain(0, 0, 0, 0);
-        }
-        for (int i = 0; i < n; i++) {
-            due("built", x.part(0, 0, i), coefficient.mod(Q));
-        }
-    }
-
-    private void greatestNoise(BigInteger noise) {
-        build(noise.multiply(t.modInverse(Q)));
+    private void greatestNoise(long noise) {
+        forge.first(0, Rows.filled(n, Rows.times(noise, Rows.inverse(t))));
         due("the greatest NOISE", x.about(0, 2), HALF);
-        due("its BUDGET", x.about(0, 1), BigInteger.ZERO);
-        due("opening answers it", x.open(7, 0), BigInteger.ZERO);
+        due("its BUDGET", x.about(0, 1), 0);
+        due("opening answers it", x.open(0, 0), 0);
     }
 
-    private void greatestProduct(BigInteger coefficient) {
-        build(coefficient);
-        due("parts", x.join(1, 2, 0, 0), BigInteger.valueOf(3));
-        BigInteger square = HALF.multiply(HALF);
+    private void greatestSquare(long first, long second) {
+        forge.both(0, Rows.filled(n, first), Rows.filled(n, second));
+        expect.row("built", x.partRow(0, 1, n), Rows.filled(n, second));
+        due("PARTS", x.join(0, 2, 0, 0), 3);
+        checkPart(0, BigInteger.valueOf(first * first));
+        checkPart(1, BigInteger.valueOf(first * second).shiftLeft(1));
+        checkPart(2, BigInteger.valueOf(second * second));
+    }
+
+    /** Coefficient i of a square of equal numbers has i + 1 products, less the N - 1 - i that wrapped around. */
+    private void checkPart(int k, BigInteger product) {
         for (int i = 0; i < n; i++) {
-            BigInteger sum = square.multiply(BigInteger.valueOf(2L * i + 2 - n));
-            BigInteger scaled = floorOfHalves(t.multiply(sum).shiftLeft(1).add(Q));
-            due("the product's coefficient " + i, x.part(1, 0, i), scaled.mod(Q));
-            due("second part", x.part(1, 1, i), BigInteger.ZERO);
+            BigInteger sum = product.multiply(BigInteger.valueOf(2L * i + 2 - n));
+            due("PART " + k + ", coefficient " + i, x.part(0, k, i), Rows.rounded(sum, t).mod(Q).longValueExact());
         }
     }
 
-    private static BigInteger floorOfHalves(BigInteger above) {
-        BigInteger below = Q.shiftLeft(1);
-        return above.subtract(above.mod(below)).divide(below);
-    }
-
-    private void due(String what, long got, BigInteger want) {
-        expect.due("KIND " + kind + ": " + what, got, want.longValueExact());
+    private void due(String what, long got, long want) {
+        expect.due("KIND " + kind + ": " + what, got, want);
     }
 }
