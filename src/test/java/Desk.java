@@ -1,5 +1,5 @@
 /** A RingCipher whose calls are counted: a test must not lean on what is answered after the 512th. */
-final class Desk {
+final class Desk implements Face {
     static final int MOST_CALLS = 512;
 
     private final RingCipher ours = new RingCipher();
@@ -9,67 +9,83 @@ final class Desk {
         return calls;
     }
 
-    int begin(int kind, int seed) {
+    @Override
+    public int begin(int kind, int seed) {
         return next().begin(kind, seed);
     }
 
-    int keys() {
+    @Override
+    public int keys() {
         return next().keys();
     }
 
-    int turnKey(int g) {
+    @Override
+    public int turnKey(int g) {
         return next().turnKey(g);
     }
 
-    int set(int p, int i, int v) {
+    @Override
+    public int set(int p, int i, int v) {
         return next().set(p, i, v);
     }
 
-    int get(int p, int i) {
+    @Override
+    public int get(int p, int i) {
         return next().get(p, i);
     }
 
-    int batch(int p, boolean back) {
+    @Override
+    public int batch(int p, boolean back) {
         return next().batch(p, back);
     }
 
-    int seal(int c, int p) {
+    @Override
+    public int seal(int c, int p) {
         return next().seal(c, p);
     }
 
-    int open(int p, int c) {
+    @Override
+    public int open(int p, int c) {
         return next().open(p, c);
     }
 
-    int join(int to, int op, int a, int b) {
+    @Override
+    public int join(int to, int op, int a, int b) {
         return next().join(to, op, a, b);
     }
 
-    int plain(int to, int op, int a, int p) {
+    @Override
+    public int plain(int to, int op, int a, int p) {
         return next().plain(to, op, a, p);
     }
 
-    int shrink(int to, int a) {
+    @Override
+    public int shrink(int to, int a) {
         return next().shrink(to, a);
     }
 
-    int turn(int to, int a, int g) {
+    @Override
+    public int turn(int to, int a, int g) {
         return next().turn(to, a, g);
     }
 
-    int part(int c, int k, int i) {
+    @Override
+    public int part(int c, int k, int i) {
         return next().part(c, k, i);
     }
 
-    int about(int c, int what) {
+    @Override
+    public int about(int c, int what) {
         return next().about(c, what);
     }
 
-    int drop(int c) {
+    @Override
+    public int drop(int c) {
         return next().drop(c);
     }
 
-    int count(int what) {
+    @Override
+    public int count(int what) {
         return next().count(what);
     }
 

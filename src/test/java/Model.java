@@ -11,7 +11,7 @@ import java.util.NoSuchElementException;
  * The document once more, word by word and with whole numbers of any size, so that an overflow, a row
  * used twice or a wrong order of draws in the class shows as a difference.
  */
-final class Model {
+final class Model implements Face {
     private static final BigInteger Q = BigInteger.valueOf(268_435_399L);
 
     private record Pair(BigInteger[] body, BigInteger[] mask) { }
@@ -32,7 +32,8 @@ final class Model {
         begin(0, 0);
     }
 
-    int begin(int newKind, int seed) {
+    @Override
+    public int begin(int newKind, int seed) {
         if (newKind < 0 || newKind > 2) {
             throw new IllegalArgumentException();
         }
@@ -54,7 +55,8 @@ final class Model {
         return n;
     }
 
-    int keys() {
+    @Override
+    public int keys() {
         s = ternary();
         publicKey = maskedPair(zero());
         relin = switchOf(times(s, s));
@@ -63,7 +65,8 @@ final class Model {
         return n;
     }
 
-    int turnKey(int g) {
+    @Override
+    public int turnKey(int g) {
         if (g % 2 == 0 || g < 3 || g > 2 * n - 1) {
             throw new IllegalArgumentException();
         }
@@ -74,24 +77,28 @@ final class Model {
         return turns.size();
     }
 
-    int set(int p, int i, int v) {
+    @Override
+    public int set(int p, int i, int v) {
         int before = get(p, i);
         plains.get(p)[i] = big(v).mod(t);
         return before;
     }
 
-    int get(int p, int i) {
+    @Override
+    public int get(int p, int i) {
         need(p >= 0 && p < 8 && i >= 0 && i < n);
         return plains.get(p)[i].intValue();
     }
 
-    int batch(int p, boolean back) {
+    @Override
+    public int batch(int p, boolean back) {
         need(p >= 0 && p < 8);
         plains.set(p, back ? values(plains.get(p)) : lagrange(plains.get(p)));
         return get(p, 0);
     }
 
-    int seal(int c, int p) {
+    @Override
+    public int seal(int c, int p) {
         need(c >= 0 && c < 16 && p >= 0 && p < 8);
         if (s == null) {
             throw new IllegalStateException();
@@ -105,7 +112,8 @@ final class Model {
         return about(c, 1);
     }
 
-    int open(int p, int c) {
+    @Override
+    public int open(int p, int c) {
         need(p >= 0 && p < 8);
         BigInteger[] opened = phase(taken(c));
         for (int i = 0; i < n; i++) {
@@ -115,7 +123,8 @@ final class Model {
         return about(c, 1);
     }
 
-    int join(int to, int op, int a, int b) {
+    @Override
+    public int join(int to, int op, int a, int b) {
         need(to >= 0 && to < 16);
         List<BigInteger[]> left = taken(a);
         List<BigInteger[]> right = taken(b);
@@ -134,7 +143,8 @@ final class Model {
         return joined.size();
     }
 
-    int plain(int to, int op, int a, int p) {
+    @Override
+    public int plain(int to, int op, int a, int p) {
         need(to >= 0 && to < 16);
         List<BigInteger[]> from = taken(a);
         need(p >= 0 && p < 8);
@@ -152,7 +162,8 @@ final class Model {
         return made.size();
     }
 
-    int shrink(int to, int a) {
+    @Override
+    public int shrink(int to, int a) {
         need(to >= 0 && to < 16);
         List<BigInteger[]> from = taken(a);
         if (from.size() == 2) {
@@ -163,7 +174,8 @@ final class Model {
         return about(to, 1);
     }
 
-    int turn(int to, int a, int g) {
+    @Override
+    public int turn(int to, int a, int g) {
         need(to >= 0 && to < 16);
         List<BigInteger[]> from = taken(a);
         if (!turns.containsKey(g) || from.size() == 3) {
@@ -174,13 +186,15 @@ final class Model {
         return about(to, 1);
     }
 
-    int part(int c, int k, int i) {
+    @Override
+    public int part(int c, int k, int i) {
         List<BigInteger[]> from = taken(c);
         need(k >= 0 && k < from.size() && i >= 0 && i < n);
         return from.get(k)[i].intValueExact();
     }
 
-    int about(int c, int what) {
+    @Override
+    public int about(int c, int what) {
         List<BigInteger[]> from = taken(c);
         if (what < 0 || what > 2) {
             throw new IllegalArgumentException();
@@ -204,12 +218,14 @@ final class Model {
         return budget;
     }
 
-    int drop(int c) {
+    @Override
+    public int drop(int c) {
         need(c >= 0 && c < 16);
         return ciphers.set(c, List.of()).size();
     }
 
-    int count(int what) {
+    @Override
+    public int count(int what) {
         return switch (what) {
             case 0 -> kind;
             case 1 -> n;
